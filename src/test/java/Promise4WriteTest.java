@@ -7,6 +7,7 @@ public final class Promise4WriteTest {
         numbers();
         characters();
         pointers();
+        indices();
         wrongPointers();
         nowhere();
         longTexts();
@@ -90,6 +91,18 @@ public final class Promise4WriteTest {
         writes("{\"" + forty + "\":1}", "/" + forty, "1");
         writes("{\"" + Checks.times(40, "~") + "\":1}", "/" + Checks.times(40, "~0"), "1");
         writes("[[[[[5]]]]]", "/0/0/0/0/0", "5");
+    }
+
+    private static void indices() {
+        StringBuilder list = new StringBuilder("[0");
+        for (int i = 1; i < 40; i++) {
+            list.append(",").append(i);
+        }
+        for (int i = 0; i < 40; i++) {
+            writes(list + "]", "/" + i, "" + i);
+        }
+        refused(list + "]", "/40", -3);
+        refused(list + "]", "/010", -3);
     }
 
     private static void wrongPointers() {
