@@ -23,13 +23,6 @@ final class Checks {
         }
     }
 
-    /** Reads the text into the document, which must have the text as it stands in due. */
-    void becomes(PatchedDocument document, String text, String due) {
-        int size = read(document, text);
-        due("the text behind read " + text, textOf(document), due);
-        due("read " + text, size, document.size());
-    }
-
     /** Does the operations on a new document, and looks at its text and size behind them. */
     void patched(String before, String operations, int answer, String behind) {
         PatchedDocument document = documentOf(before);
