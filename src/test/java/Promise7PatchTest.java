@@ -1,5 +1,5 @@
 /** Promise 7: a list of operations is done, all of them or none. */
-public final class Promise7PatchTest {
+public final class Promise7PatchTest extends OperationTexts {
     private static final Checks CHECKS = new Checks("promise 7");
 
     public static void main(String[] args) {
@@ -18,11 +18,6 @@ public final class Promise7PatchTest {
         depths();
         allOrNone();
         CHECKS.end();
-    }
-
-    /** An operation's text, its strings written with ' in place of ". */
-    private static String quoted(String text) {
-        return text.replace('\'', '"');
     }
 
     private static void done(String before, String operation, String behind) {
@@ -87,10 +82,6 @@ public final class Promise7PatchTest {
         done("[7]", "{'op':'test','path':'','value':[7],'from':'x'}", "[7]");
     }
 
-    private static String test(String path, String value) {
-        return "{'op':'test','path':'" + path + "','value':" + value + "}";
-    }
-
     private static void tests() {
         String document = "{'a':[1,'x',null],'b':{'c':true}}";
         done(document, test("/a/0", "1"), document);
@@ -129,10 +120,6 @@ public final class Promise7PatchTest {
         done("'a/'", test("", "'\\u0061\\/'"), "'a/'");
     }
 
-    private static String remove(String path) {
-        return "{'op':'remove','path':'" + path + "'}";
-    }
-
     private static void removes() {
         done("[1,2,3]", remove("/0"), "[2,3]");
         done("[1,2,3]", remove("/1"), "[1,3]");
@@ -157,10 +144,6 @@ public final class Promise7PatchTest {
         fails("null", remove(""));
         fails("null", remove("/"));
         fails("'abc'", remove("/0"));
-    }
-
-    private static String add(String path, String value) {
-        return "{'op':'add','path':'" + path + "','value':" + value + "}";
     }
 
     private static void adds() {
@@ -197,10 +180,6 @@ public final class Promise7PatchTest {
         fails("5", add("/-", "1"));
     }
 
-    private static String replace(String path, String value) {
-        return "{'op':'replace','path':'" + path + "','value':" + value + "}";
-    }
-
     private static void replaces() {
         done("[1,2]", replace("", "{}"), "{}");
         done("[1,2,3]", replace("/0", "[9]"), "[[9],2,3]");
@@ -217,10 +196,6 @@ public final class Promise7PatchTest {
         fails("{'a':1}", replace("/a/b", "3"));
         fails("{}", replace("/", "3"));
         fails("null", replace("/a", "3"));
-    }
-
-    private static String move(String from, String path) {
-        return "{'op':'move','from':'" + from + "','path':'" + path + "'}";
     }
 
     private static void moves() {
@@ -263,10 +238,6 @@ public final class Promise7PatchTest {
         fails("{'a':1}", move("a", "a"));
         fails("{'a':1}", move("/a", "a"));
         fails("{'a':1}", move("/a~", "/a~"));
-    }
-
-    private static String copy(String from, String path) {
-        return "{'op':'copy','from':'" + from + "','path':'" + path + "'}";
     }
 
     private static void copies() {
